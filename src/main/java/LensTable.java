@@ -31,7 +31,6 @@ public final class LensTable {
 
     private final Sheet[] sheets = new Sheet[SHEETS];
     private final Room room = new Room();
-    private final Bending bending = new Bending();
     private final Thing[] things = new Thing[THINGS];
     private int thingsMade = 0;
     private final Picture image = new Picture();
@@ -191,13 +190,13 @@ public final class LensTable {
 
     public int bent() {
         for (int column = -COLUMN_MOST; column <= COLUMN_MOST; column++) {
-            bending.clear();
+            room.clearBlurs();
             for (int i = 0; i < thingsMade; i++) {
                 if (Room.columnAt(room.numbers[DEPTH], things[i]) == column) {
-                    bending.take(room, things[i].z);
+                    room.addBlurs(things[i].z);
                 }
             }
-            room.bends[column + COLUMN_MOST] = bending.best();
+            room.bends[column + COLUMN_MOST] = room.bestBend();
         }
         return room.bendsMade();
     }
@@ -732,6 +731,8 @@ public final class LensTable {
     private static final class Room {
         private final int[] numbers = {0, 10, 100, 0, 5, 160, 100};
         private final int[] bends = new int[COLUMNS];
+        /** The BLURS of a COLUMN's THINGS, added for each BEND that it could have; bent() alone needs it. */
+        private final int[] blurs = new int[2 * BEND_MOST + 1];
 
         private static int firstAt(int depth, Thing t) {
             return by(-t.x * depth, t.z);
@@ -775,6 +776,33 @@ public final class LensTable {
             return best;
         }
 
+        private void clearBlurs() {
+            for (int i = 0; i < blurs.length; i++) {
+                blurs[i] = 0;
+            }
+        }
+
+        private void addBlurs(int z) {
+            for (int bend = -BEND_MOST; bend <= BEND_MOST; bend++) {
+                int e = Math.max(1, numbers[DEPTH] + bend);
+                blurs[bend + BEND_MOST] += blurBy(e, z);
+            }
+        }
+
+        // From 0 outwards, the lesser first: so the first of the least is the one that is told.
+        private int bestBend() {
+            int best = 0;
+            for (int size = 1; size <= BEND_MOST; size++) {
+                if (blurs[BEND_MOST - size] < blurs[BEND_MOST + best]) {
+                    best = -size;
+                }
+                if (blurs[BEND_MOST + size] < blurs[BEND_MOST + best]) {
+                    best = size;
+                }
+            }
+            return best;
+        }
+
         private boolean shows(Picture image) {
             return within(image.x, -numbers[WIDE], numbers[WIDE]) && within(image.y, -numbers[HIGH], numbers[HIGH]);
         }
@@ -802,38 +830,6 @@ public final class LensTable {
             x = by(-t.x * e, t.z);
             y = by((room.numbers[MIRROR] == 1 ? t.y : -t.y) * e, t.z);
             blur = room.blurBy(e, t.z);
-        }
-    }
-
-    /** The BLURS of a COLUMN's THINGS, added for each BEND that it could have. */
-    private static final class Bending {
-        private final int[] blurs = new int[2 * BEND_MOST + 1];
-
-        private void clear() {
-            for (int i = 0; i < blurs.length; i++) {
-                blurs[i] = 0;
-            }
-        }
-
-        private void take(Room room, int z) {
-            for (int bend = -BEND_MOST; bend <= BEND_MOST; bend++) {
-                int e = Math.max(1, room.numbers[DEPTH] + bend);
-                blurs[bend + BEND_MOST] += room.blurBy(e, z);
-            }
-        }
-
-        // From 0 outwards, the lesser first: so the first of the least is the one that is told.
-        private int best() {
-            int best = 0;
-            for (int size = 1; size <= BEND_MOST; size++) {
-                if (blurs[BEND_MOST - size] < blurs[BEND_MOST + best]) {
-                    best = -size;
-                }
-                if (blurs[BEND_MOST + size] < blurs[BEND_MOST + best]) {
-                    best = size;
-                }
-            }
-            return best;
         }
     }
 
