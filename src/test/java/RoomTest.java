@@ -16,8 +16,10 @@ public final class RoomTest {
         promise11Refused();
         promise12FocusedByAHole();
         promise12FocusedByALens();
+        promise12EndsOfAllDepths();
         promise12Refused();
         promise13Bent();
+        promise13EveryColumn();
         promise13OfSeveral();
         check.end();
     }
@@ -275,6 +277,36 @@ public final class RoomTest {
         check.due("nothing changes", t.told(19), -20);
     }
 
+    private static void promise12EndsOfAllDepths() {
+        LensTable t = new LensTable();
+        t.room(0, 500);
+        t.room(1, 100);
+        t.thing(0, 0, 1000);
+        // BLUR is how far E is from 1000, by 10
+        check.due("sharp where E is less than 10 from 1000", t.focused(0, 0), 991);
+        t.bend(0, -50);
+        check.due("blurred by 5 from 991 on", t.focused(0, 0), 991);
+        t.bend(0, -49);
+        check.due("blurred by 4 by the last of all depths", t.focused(0, 0), 1000);
+        check.due("its blur", t.focused(0, 1), 4);
+        // FIRST is ten times the DEPTH here: DEPTH 1 falls on COLUMN 1, DEPTH 2 on COLUMN 1 too, 3 on 2
+        t = new LensTable();
+        t.thing(-100, 0, 10);
+        t.bend(1, -50);
+        t.room(0, 10);
+        check.due("E is 1 by the first and the second", t.focused(0, 0), 1);
+        t.room(0, 0);
+        t.bend(1, 50);
+        t.move(0, -29, 0, 2);
+        check.due("FIRST by 1 is 14, by 2 it is 29, by 3 it is 43", t.focused(0, 0), 3);
+        t.bend(1, 0);
+        check.due("by 1", t.focused(0, 0), 1);
+        t.move(0, -60, 0, 2);
+        t.bend(2, 50);
+        t.bend(3, -50);
+        check.due("FIRST by 1 is 30, by 2 it is 60", t.focused(0, 0), 2);
+    }
+
     private static void promise12Refused() {
         LensTable t = new LensTable();
         t.thing(0, 0, 1);
@@ -319,6 +351,30 @@ public final class RoomTest {
         t.room(0, 0);
         t.room(2, 1);
         check.due("E is 1 at least", t.bent(), 0);
+    }
+
+    private static void promise13EveryColumn() {
+        LensTable t = new LensTable();
+        for (int column = -8; column <= 8; column++) {
+            t.thing(-20 * column, 0, 100);
+            t.bend(column, 50);
+        }
+        check.due("bent in all columns", t.bent(), 17);
+        for (int column = -8; column <= 8; column++) {
+            check.due("bend of column " + column, t.told(column + 15), -41);
+        }
+        // by an OPENING of 100 BLUR is 100 and E: the least E, and by a DEPTH of 2 that is 1
+        t.room(1, 100);
+        t.room(2, 2);
+        t.bent();
+        check.due("E of 1 is less than 2", t.told(15), -1);
+        t.room(2, 3);
+        t.bent();
+        check.due("E of 1 is less than 2", t.told(15), -2);
+        t.room(0, 50);
+        t.room(2, 99);
+        t.bent();
+        check.due("up by 1", t.told(15), 1);
     }
 
     private static void promise13OfSeveral() {

@@ -81,6 +81,8 @@ public final class TwoRoomsTest {
         dueFar(t, 0, 1, Check.NONE, Check.NONE);
         t.stand(1, 1, 0, 10, 1);
         dueFar(t, 0, 1, 11, 1);
+        dueSpan(t, 0, 1, 0, 11, 11);
+        check.due("high by 1", t.high(0, 1, 7), -7);
         dueFar(t, 0, 1000, 10001, 1000);
         // 1 + q w1 is above q times the greater of the two only while the other is behind
         t.stand(1, 1, 0, 9, 1);
