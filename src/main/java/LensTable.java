@@ -330,8 +330,11 @@ public final class LensTable {
         if (!isFlatPlace(p) || !isFlatPlace(q) || !within(e, 0, DOUBT_MOST) || !within(what, 0, 1)) {
             return BAD;
         }
-        long least = Long.MAX_VALUE;
-        long greatest = Long.MIN_VALUE;
+        if (!sight.take(stands[0], stands[1], p, q)) {
+            return NONE;
+        }
+        long least = by(sight.upper, sight.lower);
+        long greatest = least;
         for (int i = -1; i <= 1; i++) {
             for (int j = -1; j <= 1; j++) {
                 if (!sight.take(stands[0], stands[1], p + i * e, q + j * e)) {
@@ -349,12 +352,9 @@ public final class LensTable {
         if (!areStudiosTold(trace, sheet, n, e) || !within(k, 0, n - 1) || !within(what, 0, 1)) {
             return BAD;
         }
-        int finding = studiosFinding(sheet, i, n);
-        if (finding != 0) {
-            return found(finding);
-        }
-        if (!areStudios(sheet, i, n)) {
-            return BAD;
+        int refusal = studiosRefusal(sheet, i, n);
+        if (refusal != 0) {
+            return refusal;
         }
         readStudio(sheet, i, k);
         if (what == 0) {
@@ -367,12 +367,9 @@ public final class LensTable {
         if (!areStudiosTold(trace, sheet, n, e) || !within(what, 0, 2)) {
             return BAD;
         }
-        int finding = studiosFinding(sheet, i, n);
-        if (finding != 0) {
-            return found(finding);
-        }
-        if (!areStudios(sheet, i, n)) {
-            return BAD;
+        int refusal = studiosRefusal(sheet, i, n);
+        if (refusal != 0) {
+            return refusal;
         }
         switch (what) {
             case 0: return clean(bestStudio(traces[trace], sheet, i, n));
@@ -569,11 +566,15 @@ public final class LensTable {
         return isTrace(trace) && isSheet(sheet) && within(n, 1, STUDIOS_MOST) && within(e, 0, DOUBT_MOST);
     }
 
-    private int studiosFinding(int sheet, int i, int n) {
+    /** What is answered where SHEET or ITEMS are not as STUDIOS must be, else 0, which is no refusal. */
+    private int studiosRefusal(int sheet, int i, int n) {
         if (sheets[sheet].isMissing()) {
-            return NULL;
+            return found(NULL);
         }
-        return sheets[sheet].holds(i, n * STUDIO_ITEMS) ? 0 : PLACE;
+        if (!sheets[sheet].holds(i, n * STUDIO_ITEMS)) {
+            return found(PLACE);
+        }
+        return areStudios(sheet, i, n) ? 0 : BAD;
     }
 
     private boolean areStudios(int sheet, int i, int n) {
@@ -624,9 +625,10 @@ public final class LensTable {
     }
 
     private int bestStudio(Trace painting, int sheet, int i, int n) {
+        readStudio(sheet, i, 0);
         int best = 0;
-        int least = Integer.MAX_VALUE;
-        for (int k = 0; k < n; k++) {
+        int least = painterMisfit(painting);
+        for (int k = 1; k < n; k++) {
             readStudio(sheet, i, k);
             int misfit = painterMisfit(painting);
             if (misfit < least) {
@@ -766,7 +768,8 @@ public final class LensTable {
         private int sharpestDepth(Thing t) {
             int best = DEPTH_LEAST;
             int least = blurAt(DEPTH_LEAST, t);
-            for (int depth = DEPTH_LEAST + 1; depth <= DEPTH_MOST; depth++) {
+            // No BLUR is below 0, so a BLUR of 0 ends the search
+            for (int depth = DEPTH_LEAST + 1; depth <= DEPTH_MOST && least > 0; depth++) {
                 int blur = blurAt(depth, t);
                 if (blur < least) {
                     least = blur;

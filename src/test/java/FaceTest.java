@@ -104,7 +104,7 @@ public final class FaceTest {
     private static void words(String source) {
         String[] never = {"throw", "throws", "try", "catch", "finally", "synchronized", "assert", "import", "package", "double",
             "float", "System\\.(?!arraycopy)", "protected", "volatile", "native", "hashCode", "toString", "->", "::", "@",
-            "Exact", "static \\{", "Random", "Thread", "instanceof"};
+            "Exact", "\\w+_VALUE", "static \\{", "Random", "Thread", "instanceof"};
         for (String word : never) {
             String whole = Character.isLetter(word.charAt(0)) ? "\\b" + word : word;
             if (Character.isLetter(word.charAt(word.length() - 1))) {
