@@ -20,6 +20,15 @@ final class Face {
         return calls;
     }
 
+    static Method named(String name) {
+        for (Method m : CALLS) {
+            if (m.getName().equals(name)) {
+                return m;
+            }
+        }
+        throw new IllegalArgumentException("the document has no call " + name);
+    }
+
     static long call(Object on, Method call, int[] args) {
         Object[] boxed = new Object[args.length];
         for (int i = 0; i < args.length; i++) {
