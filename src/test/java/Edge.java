@@ -29,10 +29,11 @@ final class Edge {
         return this;
     }
 
-    /** The call is taken; one that only asks changes nothing. */
+    /** The call is taken; one that only asks changes nothing, and answers the same when it is asked again. */
     Edge taken(long answer, String name, int... numbers) {
         make(answer, TELL_STATUS.contains(name) ? 0 : -1, name, numbers);
         if (!CHANGE.contains(name)) {
+            then(answer, name, numbers);
             holdStill(name, numbers);
         }
         return this;

@@ -22,6 +22,9 @@ public final class FaceTest {
         "long span 4", "int studio 7", "int studios 6", "int spot 4", "int days 4", "int kind 1", "int as 2", "int ask 2",
         "int trace 1", "int count 1", "int status 0"};
 
+    private static final Set<Class<?>> CONSTANTS = Set.of(int.class, long.class, boolean.class, char.class, String.class,
+        int[].class, long[].class, char[].class, byte[].class);
+
     public static void main(String[] args) throws IOException {
         calls();
         constants();
@@ -85,6 +88,7 @@ public final class FaceTest {
             for (Field f : c.getDeclaredFields()) {
                 boolean isStatic = Modifier.isStatic(f.getModifiers());
                 check.due(c + " " + f.getName() + ": static fields are final", !isStatic || Modifier.isFinal(f.getModifiers()));
+                check.due(c + " " + f.getName() + ": static fields are constants", !isStatic || CONSTANTS.contains(f.getType()));
                 fields += isStatic ? 0 : 1;
             }
             check.due(c + " has at most twenty fields", fields <= 20);

@@ -260,6 +260,10 @@ public final class RoomEdgesTest {
         edge("FOCUSED: of all DEPTHS: the first").given("thing", 0, 0, 100).given("room", OPENING, 100)
             .taken(1, "focused", 0, 0).taken(101, "focused", 0, 1)
             .given("room", FOCUS, 500).taken(1, "focused", 0, 0).taken(100, "focused", 0, 1);
+        // FIRST is 30 times the DEPTH: by 1 it falls on COLUMN 2, by 2 on 3, by 3 on 5
+        edge("FOCUSED: of all DEPTHS: behind the first").given("thing", -60, 0, 2).given("room", OPENING, 100)
+            .given("bend", 2, 50).given("bend", 3, -50).taken(2, "focused", 0, 0).taken(150, "focused", 0, 1)
+            .given("bend", 3, 50).taken(3, "focused", 0, 0).given("bend", 2, -50).taken(1, "focused", 0, 0);
         // BLUR is how far E is from 1000, by 10
         edge("FOCUSED: of all DEPTHS: the last").given("thing", 0, 0, 1000).given("room", OPENING, 100).given("room", FOCUS, 500)
             .taken(991, "focused", 0, 0)

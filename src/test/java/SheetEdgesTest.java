@@ -63,13 +63,14 @@ public final class SheetEdgesTest {
             .taken(Check.NONE, "far", -20, 40, 0).taken(Check.NONE, "far", 40, -20, 1);
     }
 
+    /** What one object has is not another's, and stays when others are made and used. */
     private static void promise1EachObjectIsNew() {
         LensTable used = new LensTable();
         LensTable other = new LensTable();
         used.sheet(0, 2, 4);
         used.room(0, 50);
         used.bend(0, 5);
-        used.thing(0, 0, 1);
+        used.thing(7, 8, 9);
         used.mark(0, 0, 1, 1);
         used.stand(1, 60, 0, 0, 100);
         used.ask(0, 0);
@@ -83,7 +84,19 @@ public final class SheetEdgesTest {
             for (int i = 0; i < 8; i++) {
                 check.due("count(" + i + ") beside a used object", t.count(i), 0);
             }
+            t.thing(1, 1, 1);
+            t.mark(0, 0, 2, 2);
+            t.sheet(0, 0, 7);
+            t.stand(1, 20, 0, 0, 100);
         }
+        check.due("status() of the used object", used.status(), 1);
+        check.due("trace(0) of the used object", used.trace(0), 11);
+        check.due("told(0) of the used object", used.told(0), 50);
+        check.due("told(15) of the used object", used.told(15), 5);
+        check.due("picture(0, 2) of the used object", used.picture(0, 2), 9);
+        check.due("marked(0, 0, 0) of the used object", used.marked(0, 0, 0), 1);
+        check.due("far of the used object", used.far(-20, 40, 0), 600000);
+        check.due("drop(0) of the used object", used.drop(0), 4);
     }
 
     private static void promise2WhichSheet() {
