@@ -17,6 +17,7 @@ public final class TwoRoomEdgesTest {
         promise22GreatestNumbers();
         promise23WhereItIsSeen();
         promise23None();
+        promise23LooksLikeARefusal();
         promise23Cut();
         promise24Doubt();
         promise24What();
@@ -174,6 +175,14 @@ public final class TwoRoomEdgesTest {
         shallow("high: NONE: FAR is NONE", 0, 1, 0).taken(Check.NONE, "high", 0, 0, 5).taken(-5, "high", 0, 1, 5)
             .taken(Check.NONE, "high", 1, 0, 5);
         shallow("high: NONE: FAR is NONE", 10, 1, 11).taken(Check.NONE, "high", -1, 0, 5).taken(-10, "high", 0, 1, 5);
+    }
+
+    /** HIGH is v0 - 1000 r. */
+    private static void promise23LooksLikeARefusal() {
+        shallow("high: how high it is, though it looks like NONE, BAD", 0, 1000, 0)
+            .taken(-1000000, "high", 0, 1, 1000).taken(-999000, "high", 0, 1, 999)
+            .given("stand", 0, 0, -1, 0, 1).taken(-1000001, "high", 0, 1, 1000)
+            .given("stand", 0, 0, -11, 0, 1).taken(-1000011, "high", 0, 1, 1000);
     }
 
     /** HIGH is - r 6 by 100, from 0, then from 1, then from -1. */
